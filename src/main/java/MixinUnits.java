@@ -240,13 +240,14 @@ public final class MixinUnits {
     // ---- faces
 
     public int error(int node) {
-        return foundFace(neededNode(node)).mistake;
+        return finder.faceOf(neededNode(node)).mistake;
     }
 
     public int typeOf(int node, int name) {
         Node asked = neededNode(node);
         needTypeName(name);
-        Face face = faithfulFace(asked);
+        Face face = finder.faceOf(asked);
+        needNoMistake(face);
         return face.isStamp(name) ? DEFINED_AS_STAMP : face.types[name];
     }
 
@@ -255,8 +256,10 @@ public final class MixinUnits {
         Node compared = neededNode(other);
         needTypeName(name);
         needTypeName(otherName);
-        Face face = faithfulFace(asked);
-        Face otherFace = faithfulFace(compared);
+        Face face = finder.faceOf(asked);
+        Face otherFace = finder.faceOf(compared);
+        needNoMistake(face);
+        needNoMistake(otherFace);
         return face.types[name] == DEFINED && otherFace.types[otherName] == DEFINED
             && isSameRow(face.rows[name], face.sizes[name], otherFace.rows[otherName], otherFace.sizes[otherName]);
     }
@@ -264,20 +267,24 @@ public final class MixinUnits {
     public int valueOf(int node, int name) {
         Node asked = neededNode(node);
         needValueName(name);
-        return faithfulFace(asked).values[name];
+        Face face = finder.faceOf(asked);
+        needNoMistake(face);
+        return face.values[name];
     }
 
     public int size(int node, int name) {
         Node asked = neededNode(node);
         needValueName(name);
-        return faithfulFace(asked).sizes[TYPE_NAMES + name];
+        Face face = finder.faceOf(asked);
+        needNoMistake(face);
+        return face.sizes[TYPE_NAMES + name];
     }
 
     // ---- running
 
     public int run(int node) {
         Node started = neededNode(node);
-        if (foundFace(started).mistake != 0) {
+        if (finder.faceOf(started).mistake != 0) {
             return RUN_WRONG;
         }
         int outcome = running.perform(started);
@@ -326,7 +333,7 @@ public final class MixinUnits {
 
     public int build(int node) {
         Node built = neededNode(node);
-        finder.find(built);
+        finder.faceOf(built);
         int count = 0;
         for (int i = 0; i <= built.number && i < program.nodes.size(); i++) {
             Node part = program.nodes.get(i);
@@ -347,7 +354,7 @@ public final class MixinUnits {
             return true;
         }
         sight.clear();
-        sight.addFace(foundFace(asked), -1);
+        sight.addFace(finder.faceOf(asked), -1);
         return sight.isSameAs(asked.own);
     }
 
@@ -371,22 +378,18 @@ public final class MixinUnits {
             sight.add(program.versionNumberOf(node));
             program.addVersionTo(sight, program.versionOf(node));
         } else if (node.kind == SEAL || node.kind == APPLY) {
-            seeByOther(node.parts[0], node.parts[1], node.kind == SEAL);
+            // The signature or the functor is seen whole, and of the other part the values that it has, too.
+            Face whole = node.parts[node.kind == SEAL ? 1 : 0].face;
+            Face other = node.parts[node.kind == SEAL ? 0 : 1].face;
+            sight.add(node.parts[0].what);
+            sight.add(node.parts[1].what);
+            sight.addFace(whole, -1);
+            sight.addFace(other, whole.mistake == 0 ? whole.valueNames() : 0);
         } else {
             for (int i = 0; i < node.parts.length; i++) {
                 sight.addFace(node.parts[i].face, -1);
             }
         }
-    }
-
-    /** The signature or functor is seen whole, and of the other part just the values that it has, too. */
-    private void seeByOther(Node first, Node second, boolean isSeal) {
-        Node whole = isSeal ? second : first;
-        Node other = isSeal ? first : second;
-        sight.add(first.what);
-        sight.add(second.what);
-        sight.addFace(whole.face, -1);
-        sight.addFace(other.face, whole.face.mistake == 0 ? whole.face.valueNames() : 0);
     }
 
     // ---- what calls need
@@ -437,17 +440,10 @@ public final class MixinUnits {
         }
     }
 
-    private Face foundFace(Node node) {
-        finder.find(node);
-        return node.face;
-    }
-
-    private Face faithfulFace(Node node) {
-        Face face = foundFace(node);
+    private static void needNoMistake(Face face) {
         if (face.mistake != 0) {
             throw new IllegalStateException("the node has an error");
         }
-        return face;
     }
 
     private static boolean isTypeName(int name) {
@@ -502,12 +498,18 @@ public final class MixinUnits {
         final int[] refNames = new int[MOST_EXPRESSIONS];
         final int[] likeExpressions = new int[MOST_EXPRESSIONS];
         int expressionCount;
-        final ArrayList<Version> versions = new ArrayList<Version>();
-        final int[][] versionPlaces = new int[MOST_UNITS][MOST_VERSIONS];
+        /** Five for each unit, of which so many count as there are. */
+        private final Version[] versions = new Version[MOST_UNITS * MOST_VERSIONS];
         final int[] versionCounts = new int[MOST_UNITS];
         int unitCount;
         final ArrayList<Node> nodes = new ArrayList<Node>();
         int edits;
+
+        Program() {
+            for (int i = 0; i < versions.length; i++) {
+                versions[i] = new Version();
+            }
+        }
 
         int addSmallType(int part) {
             typeRows[typeCount][0] = part;
@@ -584,20 +586,17 @@ public final class MixinUnits {
         }
 
         int addVersion(int unit) {
-            Version made = new Version();
             int number = versionCounts[unit];
             if (number > 0) {
-                made.copy(latestOf(unit));
+                versions[unit * MOST_VERSIONS + number].copy(latestOf(unit));
             }
-            versionPlaces[unit][number] = versions.size();
-            versions.add(made);
             versionCounts[unit]++;
             edits++;
             return number;
         }
 
         Version latestOf(int unit) {
-            return versions.get(versionPlaces[unit][versionCounts[unit] - 1]);
+            return versions[unit * MOST_VERSIONS + versionCounts[unit] - 1];
         }
 
         int versionNumberOf(Node unitNode) {
@@ -605,7 +604,7 @@ public final class MixinUnits {
         }
 
         Version versionOf(Node unitNode) {
-            return versions.get(versionPlaces[unitNode.name][versionNumberOf(unitNode)]);
+            return versions[unitNode.name * MOST_VERSIONS + versionNumberOf(unitNode)];
         }
 
         int addNode(int kind, Node[] parts, int name, int to, boolean isGenerative) {
@@ -711,6 +710,11 @@ public final class MixinUnits {
                 sum += parts[i].weight;
             }
             weight = sum;
+        }
+
+        /** Tells whether what the node is is the node itself. */
+        boolean isByItself() {
+            return isGenerative || kind == CHOOSE;
         }
     }
 
@@ -900,56 +904,40 @@ public final class MixinUnits {
 
     /** What nodes are and what stamps are made of: what is made of the same has the same number. */
     private static final class Things {
-        private static final int WIDTH = 4;
+        private static final int WIDTH = 5;
+        /** Of each thing its kind and what it is made of, and the next one in its chain, or -1. */
         private int[] made = new int[WIDTH * 64];
-        /** By a hash of what it is made of, the number of each thing and 1; 0 where there is none. */
-        private int[] places = new int[256];
         private int count;
+        /** The chains, by a hash of what things are made of. */
+        private final int[] heads = new int[256];
+
+        Things() {
+            Arrays.fill(heads, -1);
+        }
 
         int numberOf(int kind, int first, int second, int third) {
-            int place = placeOf(kind, first, second, third);
-            if (places[place] > 0) {
-                return places[place] - 1;
-            }
-            if (WIDTH * count >= made.length) {
-                grow();
-                place = placeOf(kind, first, second, third);
-            }
-            int at = WIDTH * count;
-            made[at] = kind;
-            made[at + 1] = first;
-            made[at + 2] = second;
-            made[at + 3] = third;
-            count++;
-            places[place] = count;
-            return count - 1;
-        }
-
-        /** The place where a thing stands, or the empty one where it would; one in four is filled at most. */
-        private int placeOf(int kind, int first, int second, int third) {
             int hash = ((kind * 31 + first) * 1009 + second) * 1013 + third;
-            int place = (hash ^ hash >>> 15) & places.length - 1;
-            for (int i = 0; i < places.length; i++) {
-                if (places[place] == 0 || isMadeOf(places[place] - 1, kind, first, second, third)) {
-                    return place;
+            int head = (hash ^ hash >>> 15) & heads.length - 1;
+            int number = heads[head];
+            for (int i = 0; i < count && number >= 0; i++) {
+                int at = WIDTH * number;
+                if (made[at] == kind && made[at + 1] == first && made[at + 2] == second && made[at + 3] == third) {
+                    return number;
                 }
-                place = place + 1 & places.length - 1;
+                number = made[at + 4];
             }
-            return place;
-        }
-
-        private boolean isMadeOf(int number, int kind, int first, int second, int third) {
-            int at = WIDTH * number;
-            return made[at] == kind && made[at + 1] == first && made[at + 2] == second && made[at + 3] == third;
-        }
-
-        private void grow() {
-            made = Arrays.copyOf(made, 2 * made.length);
-            places = new int[2 * places.length];
-            for (int i = 0; i < count; i++) {
-                int at = WIDTH * i;
-                places[placeOf(made[at], made[at + 1], made[at + 2], made[at + 3])] = i + 1;
+            int end = WIDTH * count;
+            if (end >= made.length) {
+                made = Arrays.copyOf(made, 2 * made.length);
             }
+            made[end] = kind;
+            made[end + 1] = first;
+            made[end + 2] = second;
+            made[end + 3] = third;
+            made[end + 4] = heads[head];
+            heads[head] = count;
+            count++;
+            return count - 1;
         }
     }
 
@@ -1046,7 +1034,7 @@ public final class MixinUnits {
             int count = 0;
             for (int i = 0; i < size && i < row.length; i++) {
                 int name = row[i] - FIRST_OPEN;
-                boolean isPut = isTypeName(name) && sizes[name] > 0;
+                boolean isPut = name >= 0 && name < TYPE_NAMES && sizes[name] > 0;
                 int more = isPut ? sizes[name] : 1;
                 if (count + more > MOST_PARTS || count + more > into.length) {
                     return TOO_LARGE;
@@ -1126,19 +1114,15 @@ public final class MixinUnits {
                     if (size > MOST_PARTS) {
                         return valueMistake(LARGE, name);
                     }
-                    putValue(version, name, face, size);
+                    int told = version.expressions[name];
+                    int status = (told == HOLE_EXPRESSION ? HOLE : DEFINED) | version.flags[name] & GHOST;
+                    face.putValue(name, status, spare, size);
+                    if (told >= 0 && program.kinds[told] == NUMBER && version.flags[name] == 0) {
+                        face.putNumber(name, program.firsts[told]);
+                    }
                 }
             }
             return 0;
-        }
-
-        private void putValue(Version version, int name, Face face, int size) {
-            int told = version.expressions[name];
-            int status = (told == HOLE_EXPRESSION ? HOLE : DEFINED) | version.flags[name] & GHOST;
-            face.putValue(name, status, spare, size);
-            if (told >= 0 && program.kinds[told] == NUMBER && version.flags[name] == 0) {
-                face.putNumber(name, program.firsts[told]);
-            }
         }
 
         private int checkDefinition(Version version, int name, Face face) {
@@ -1309,7 +1293,7 @@ public final class MixinUnits {
         }
 
         /** Finds anew what has changed of a node and of all of which it is made, and marks all these as needed. */
-        void find(Node asked) {
+        Face faceOf(Node asked) {
             markNeeded(asked);
             for (int i = 0; i <= asked.number && i < program.nodes.size(); i++) {
                 Node node = program.nodes.get(i);
@@ -1320,6 +1304,7 @@ public final class MixinUnits {
                     node.foundAt = program.edits;
                 }
             }
+            return asked.face;
         }
 
         private void markNeeded(Node asked) {
@@ -1337,8 +1322,8 @@ public final class MixinUnits {
         }
 
         private int findWhat(Node node) {
-            if (node.isGenerative || node.kind == CHOOSE) {
-                return itself(node);
+            if (node.isByItself()) {
+                return things.numberOf(ITSELF, node.number, 0, 0);
             }
             if (node.kind == UNIT) {
                 return things.numberOf(UNIT, node.name, program.versionNumberOf(node), 0);
@@ -1349,14 +1334,9 @@ public final class MixinUnits {
             return things.numberOf(node.kind, node.parts[0].what, node.parts[1].what, 0);
         }
 
-        private int itself(Node node) {
-            return things.numberOf(ITSELF, node.number, 0, 0);
-        }
-
         /** The part of a type in full that is the stamp of a node for one of its type names. */
         private int stampOf(Node node, int name) {
-            boolean isByNode = node.isGenerative || node.kind == CHOOSE;
-            return FIRST_STAMP + (isByNode ? things.numberOf(STAMP_OF_NODE, itself(node), name, 0)
+            return FIRST_STAMP + (node.isByItself() ? things.numberOf(STAMP_OF_NODE, node.what, name, 0)
                 : things.numberOf(STAMP_OF_PARTS, node.parts[0].what, node.parts[1].what, name));
         }
 
@@ -1376,7 +1356,9 @@ public final class MixinUnits {
                 case SEAL:
                     return seal(node, parts[0].face, parts[1].face, node.face);
                 case APPLY:
-                    return apply(node, parts[0].face, parts[1].face, node.face);
+                    restampFunctor(parts[0].face, node.isGenerative ? node.what : parts[1].what);
+                    int mistake = link(functor, parts[1].face, functor.valueNames(), node.face);
+                    return mistake != 0 ? mistake : applied(parts[1].face, node.face);
                 case CHOOSE:
                     return choice(node, parts[0].face, parts[1].face, parts[2].face);
                 default:
@@ -1422,7 +1404,7 @@ public final class MixinUnits {
         }
 
         private int linkOne(int name, Face from, Face face) {
-            int size = putValueType(filling, from, name, spare);
+            int size = filling.put(from.rows[TYPE_NAMES + name], from.sizes[TYPE_NAMES + name], spare);
             if (size > MOST_PARTS) {
                 return valueMistake(LARGE, name);
             }
@@ -1432,8 +1414,8 @@ public final class MixinUnits {
         }
 
         private int linkBoth(int name, Face first, Face second, Face face) {
-            int size = putValueType(filling, first, name, spare);
-            int otherSize = putValueType(filling, second, name, otherSpare);
+            int size = filling.put(first.rows[TYPE_NAMES + name], first.sizes[TYPE_NAMES + name], spare);
+            int otherSize = filling.put(second.rows[TYPE_NAMES + name], second.sizes[TYPE_NAMES + name], otherSpare);
             if (size > MOST_PARTS || otherSize > MOST_PARTS) {
                 return valueMistake(LARGE, name);
             }
@@ -1455,10 +1437,6 @@ public final class MixinUnits {
             face.putValue(name, definer.values[name], spare, size);
             face.putNumberOf(name, definer, name);
             return 0;
-        }
-
-        private static int putValueType(Filling by, Face from, int name, int[] into) {
-            return by.put(from.rows[TYPE_NAMES + name], from.sizes[TYPE_NAMES + name], into);
         }
 
         private int seal(Node node, Face first, Face signature, Face face) {
@@ -1515,7 +1493,7 @@ public final class MixinUnits {
             if (!first.hasValue(name)) {
                 return valueMistake(LACKING, name);
             }
-            int size = putValueType(filling, signature, name, spare);
+            int size = filling.put(signature.rows[TYPE_NAMES + name], signature.sizes[TYPE_NAMES + name], spare);
             if (size > MOST_PARTS) {
                 return valueMistake(LARGE, name);
             }
@@ -1525,45 +1503,44 @@ public final class MixinUnits {
             if (first.isGhost(name) && !signature.isGhost(name)) {
                 return valueMistake(GHOSTLY, name);
             }
-            size = putValueType(stamps, signature, name, spare);
+            size = stamps.put(signature.rows[TYPE_NAMES + name], signature.sizes[TYPE_NAMES + name], spare);
             int status = (first.isValueHole(name) ? HOLE : DEFINED) | signature.values[name] & GHOST;
             face.putValue(name, status, spare, size);
             return 0;
         }
 
-        private int apply(Node node, Face first, Face argument, Face face) {
+        private void restampFunctor(Face from, int by) {
             functor.clear();
-            functor.copy(first);
-            restamp(functor, node.isGenerative ? itself(node) : node.parts[1].what);
-            int mistake = link(functor, argument, functor.valueNames(), face);
-            for (int name = 0; name < TYPE_NAMES && mistake == 0; name++) {
-                if (functor.types[name] == HOLE && argument.types[name] != DEFINED) {
-                    mistake = typeMistake(LACKING, name);
-                }
-            }
-            for (int name = 0; name < VALUE_NAMES && mistake == 0; name++) {
-                if (functor.isValueHole(name) && (argument.values[name] & DEFINED) == 0) {
-                    mistake = valueMistake(LACKING, name);
-                }
-            }
-            // Its values are those of the functor already: of the argument just these were linked.
-            for (int name = 0; name < TYPE_NAMES; name++) {
-                if (!functor.hasType(name)) {
-                    face.removeType(name);
-                }
-            }
-            return mistake;
-        }
-
-        private void restamp(Face face, int by) {
+            functor.copy(from);
             for (int place = 0; place < NAMES; place++) {
-                int[] row = face.rows[place];
-                for (int i = 0; i < face.sizes[place] && i < row.length; i++) {
+                int[] row = functor.rows[place];
+                for (int i = 0; i < functor.sizes[place] && i < row.length; i++) {
                     if (row[i] >= FIRST_STAMP) {
                         row[i] = FIRST_STAMP + things.numberOf(STAMP_OF_STAMP, by, row[i] - FIRST_STAMP, 0);
                     }
                 }
             }
+        }
+
+        /** Looks at an APPLY that has been linked, and leaves in its face just what the functor has. */
+        private int applied(Face argument, Face face) {
+            for (int name = 0; name < TYPE_NAMES; name++) {
+                if (functor.types[name] == HOLE && argument.types[name] != DEFINED) {
+                    return typeMistake(LACKING, name);
+                }
+            }
+            for (int name = 0; name < VALUE_NAMES; name++) {
+                if (functor.isValueHole(name) && (argument.values[name] & DEFINED) == 0) {
+                    return valueMistake(LACKING, name);
+                }
+            }
+            // The values are those of the functor already: of the argument just these were linked.
+            for (int name = 0; name < TYPE_NAMES; name++) {
+                if (!functor.hasType(name)) {
+                    face.removeType(name);
+                }
+            }
+            return 0;
         }
 
         private int choice(Node node, Face first, Face second, Face third) {
