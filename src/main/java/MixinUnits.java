@@ -730,7 +730,6 @@ public final class MixinUnits {
         final int[] numbers = new int[VALUE_NAMES];
 
         void clear() {
-            mistake = 0;
             Arrays.fill(types, NONE);
             Arrays.fill(values, NONE);
             Arrays.fill(sizes, 0);
@@ -752,8 +751,6 @@ public final class MixinUnits {
 
         void putTypeHole(int name) {
             types[name] = HOLE;
-            rows[name][0] = FIRST_OPEN + name;
-            sizes[name] = 1;
         }
 
         void putType(int name, int[] row, int size) {
@@ -909,7 +906,7 @@ public final class MixinUnits {
         private int[] made = new int[WIDTH * 64];
         private int count;
         /** The chains, by a hash of what things are made of. */
-        private final int[] heads = new int[256];
+        private final int[] heads = new int[64];
 
         Things() {
             Arrays.fill(heads, -1);
@@ -1510,7 +1507,6 @@ public final class MixinUnits {
         }
 
         private void restampFunctor(Face from, int by) {
-            functor.clear();
             functor.copy(from);
             for (int place = 0; place < NAMES; place++) {
                 int[] row = functor.rows[place];

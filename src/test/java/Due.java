@@ -38,12 +38,18 @@ final class Due {
         try {
             call.run();
         } catch (RuntimeException e) {
-            got = e.getClass();
+            got = isThrown(e) ? e.getClass() : RuntimeException.class;
         }
         if (got != due) {
             wrong++;
             System.out.println(test + ": " + what + " threw " + got + ", due is " + due);
         }
+    }
+
+    /** Tells whether the class itself threw it, not the machine or the library. */
+    static boolean isThrown(RuntimeException e) {
+        return e.getStackTrace().length > 0 && e.getStackTrace()[0].getClassName().equals("MixinUnits")
+            && !(e instanceof ArrayIndexOutOfBoundsException);
     }
 
     void end() {

@@ -89,6 +89,7 @@ public final class FaceTest {
         new FaceTest().unitSizes();
         new FaceTest().unitValues();
         new FaceTest().unitDefinitions();
+        new FaceTest().unitLargeExpressions();
         new FaceTest().partErrors();
         new FaceTest().linkTypes();
         new FaceTest().linkKnots();
@@ -265,6 +266,14 @@ public final class FaceTest {
         error("WHEN needs an INT first", u, 203);
         value(u, 3, INT, x.expression(4, one, one, pairOfOnes));
         error("WHEN needs the others the same", u, 203);
+        hole(u, 7, named(1));
+        x.setType(u, 1, -1);
+        value(u, 3, INT, x.expression(4, ref(7), one, one));
+        error("a hole is no INT", u, 203);
+        x.setType(u, 1, INT);
+        error("made full it is", u, 0);
+        x.remove(u, 7);
+        x.setType(u, 1, -2);
         value(u, 3, PAIR, x.expression(4, one, pairOfOnes, pairOfOnes));
         error("WHEN is of their type", u, 0);
         value(u, 3, INT, x.expression(0, one, pairOfOnes, 0));
@@ -299,6 +308,31 @@ public final class FaceTest {
         error("lazy effects are no ghosts", u, 604);
         ghost(u, 4, INT, pairOfOnes);
         error("a ghost's type is looked at, too", u, 204);
+    }
+
+    /** What an expression is made of can be of far more parts than a component. */
+    private void unitLargeExpressions() {
+        int u = unit();
+        x.setType(u, 0, tree(named(1), 5));
+        x.setType(u, 1, tree(named(2), 5));
+        x.setType(u, 2, tree(INT, 4));
+        hole(u, 0, named(0));
+        hole(u, 1, INT);
+        int large = ref(0);
+        int two = x.expression(1, large, large, 0);
+        int four = x.expression(1, two, two, 0);
+        value(u, 2, named(0), x.expression(2, x.expression(3, four, 0, 0), 0, 0));
+        error("SECOND of 799 parts, FIRST of 399", u, 0);
+        value(u, 2, named(0), x.expression(3, x.expression(1, four, large, 0), 0, 0));
+        error("SECOND of 999 parts", u, 0);
+        value(u, 2, named(0), x.expression(3, x.expression(1, four, two, 0), 0, 0));
+        error("SECOND of 1199 parts is too large to be any component's", u, 202);
+        value(u, 2, named(0), x.expression(4, ref(1), x.expression(2, two, 0, 0), x.expression(3, two, 0, 0)));
+        error("a WHEN of two", u, 0);
+        value(u, 2, named(0), x.expression(4, ref(1), x.expression(2, two, 0, 0), two));
+        error("unlike", u, 202);
+        value(u, 2, named(0), two);
+        error("too large to be any component's", u, 202);
     }
 
     private void partErrors() {
@@ -730,6 +764,9 @@ public final class FaceTest {
         error("none", n, 0);
         DUE.is("a ghost, if one of both is", x.valueOf(n, 1), 6);
         DUE.is("no ghost", x.valueOf(n, 0), 2);
+        value(b, 1, INT, one);
+        ghost(a, 1, INT, one);
+        DUE.is("a ghost of the first one", x.valueOf(n, 1), 6);
         value(b, 0, PAIR, pairOfOnes);
         error("unlike", n, 200);
     }

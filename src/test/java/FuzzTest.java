@@ -64,7 +64,7 @@ public final class FuzzTest {
         } catch (IllegalArgumentException e) {
             return (1L << 40) + 1;
         } catch (IndexOutOfBoundsException e) {
-            return (1L << 40) + (e.getClass() == IndexOutOfBoundsException.class ? 2 : 12);
+            return (1L << 40) + (Due.isThrown(e) || e.getStackTrace()[0].getClassName().equals("Model") ? 2 : 12);
         } catch (IllegalStateException e) {
             return (1L << 40) + 3;
         }

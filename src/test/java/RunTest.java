@@ -110,6 +110,8 @@ public final class RunTest {
         new RunTest().unlikeHalves();
         new RunTest().unlikeChoice();
         new RunTest().manyNumbers();
+        new RunTest().manyValues();
+        new RunTest().longChain();
         DUE.end();
     }
 
@@ -552,6 +554,13 @@ public final class RunTest {
         x.remove(a, 5);
         runs("a third part of a third part", x.choose(a, a, x.node(0, numberUnit(), third, false)), 8);
         cells("the latest run that ran", 0, 0);
+        x.remove(v, 0);
+        int shown = v;
+        runs("in a SEAL", x.node(1, third, shown, false), 8);
+        runs("in a functor", x.node(2, third, shown, false), 8);
+        runs("in an argument", x.node(2, shown, third, false), 8);
+        runs("in the first part of a CHOOSE", x.choose(third, shown, t), 8);
+        runs("behind a SEAL", x.node(0, t, x.node(1, third, shown, false), false), 8);
         int effect = unit2(3, 1);
         runs("a third part that does not run", x.node(0, effect, third, false), 8);
     }
@@ -657,6 +666,9 @@ public final class RunTest {
         results("nor does the lazy one", 3, 1, 2);
         without("ADD finds both", 8);
         logs("of the pair, its numbers", 2, 7);
+        value(user, 8, add(ref(7), ref(3)));
+        runs("a pair where a number is wanted, right", n, 0);
+        without("ADD finds both", 8);
         value(user, 8, add(when(ref(3), number(1), number(1)), ref(7)));
         runs("a pair where a number is wanted", n, 0);
         logs("WHEN has none: the rest is not asked for", 2);
@@ -704,5 +716,40 @@ public final class RunTest {
         runs("ten numbers", a, 0);
         results("ten numbers", 1, 1, 2, 3, 4, 5, 1, 2, 3, 4, 5);
         logs("ten numbers", 10);
+    }
+
+    private void manyValues() {
+        int u = unit();
+        int two = pair(number(1), number(2));
+        int four = x.type(1, PAIR, PAIR);
+        int five = x.type(1, four, INT);
+        for (int name = 0; name < 10; name++) {
+            x.setValue(u, name, five, pair(pair(two, two), number(name)), name == 9 ? EFFECT : 0);
+        }
+        runs("many values", u, 0);
+        for (int name = 0; name < 10; name++) {
+            results("many values", name, 1, 2, 1, 2, name);
+        }
+        logs("many values", 5);
+        cells("many values", 10, 0);
+    }
+
+    /** Eleven APPLYs in a row, each of a unit of three cells, each of which asks the one before it. */
+    private void longChain() {
+        for (int u = 0; u < 3; u++) {
+            DUE.is("unit", unit(), u);
+            hole(u, (3 * u + 8) % 9, INT);
+            for (int name = 3 * u; name < 3 * u + 3; name++) {
+                value(u, name, add(ref((name + 8) % 9), number(1)));
+            }
+        }
+        int n = unit2(8, 1000);
+        for (int i = 0; i < 11; i++) {
+            n = x.node(2, i % 3, n, i % 2 == 0);
+        }
+        runs("a row of units", n, 0);
+        results("each adds three", 5, 1033);
+        results("the hole", 2, 1030);
+        cells("all are reached", 34, 0);
     }
 }
