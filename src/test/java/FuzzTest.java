@@ -39,7 +39,7 @@ public final class FuzzTest {
 
     public static void main(String[] args) {
         long from = args.length > 0 ? Long.parseLong(args[0]) : 1;
-        long runs = args.length > 1 ? Long.parseLong(args[1]) : 1500;
+        long runs = args.length > 1 ? Long.parseLong(args[1]) : 3000;
         counts = args.length > 2;
         int wrong = 0;
         for (long seed = from; seed < from + runs && wrong < 3; seed++) {
