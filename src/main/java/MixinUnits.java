@@ -1672,7 +1672,7 @@ public final class MixinUnits {
     /** The values of a run: numbers, and pairs of earlier ones. */
     private static final class Values {
         /** Beyond any place that can be asked for, and far enough from the end of long to add two. */
-        private static final long FAR = 1L << 62;
+        private static final long FAR = 1L << 61;
         /** The number, or the first one of a pair. */
         private int[] firsts = new int[32];
         /** The second one of a pair; -1 for a number. */

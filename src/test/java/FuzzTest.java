@@ -220,6 +220,9 @@ public final class FuzzTest {
     }
 
     private int odd(int n) {
+        if (chance(1)) {
+            return chance(50) ? Integer.MIN_VALUE + random.nextInt(2) : Integer.MAX_VALUE - random.nextInt(2);
+        }
         return chance(2) ? random.nextInt(14) - 2 : below(n);
     }
 
