@@ -92,7 +92,8 @@ public final class MixinUnits {
 
     // ---- types and expressions
 
-    public int type(int kind, int first, int second) {
+    public int type(int kind, int first, int second)
+        throws IllegalArgumentException, IndexOutOfBoundsException, IllegalStateException {
         if (kind < TYPE_INT || kind > TYPE_NAMED) {
             throw new IllegalArgumentException("there is no such kind of types");
         }
@@ -113,7 +114,7 @@ public final class MixinUnits {
             : program.addSmallType(kind == TYPE_INT ? INT_PART : FIRST_OPEN + first);
     }
 
-    public int leaf(boolean isRef, int number) {
+    public int leaf(boolean isRef, int number) throws IllegalArgumentException, IllegalStateException {
         if (isRef && !isValueName(number)) {
             throw new IllegalArgumentException("there is no such value name");
         }
@@ -123,7 +124,8 @@ public final class MixinUnits {
         return program.addLeaf(isRef ? REF : NUMBER, number);
     }
 
-    public int expression(int kind, int first, int second, int third) {
+    public int expression(int kind, int first, int second, int third)
+        throws IllegalArgumentException, IndexOutOfBoundsException, IllegalStateException {
         if (kind < ADD || kind > WHEN) {
             throw new IllegalArgumentException("there is no such kind of expressions");
         }
@@ -148,14 +150,14 @@ public final class MixinUnits {
 
     // ---- units
 
-    public int unit() {
+    public int unit() throws IllegalStateException {
         if (program.unitCount >= MOST_UNITS) {
             throw new IllegalStateException("there are 8 units");
         }
         return program.addUnit();
     }
 
-    public int version(int unit) {
+    public int version(int unit) throws IndexOutOfBoundsException, IllegalStateException {
         needUnit(unit);
         if (program.versionCounts[unit] >= MOST_VERSIONS) {
             throw new IllegalStateException("there are 5 versions");
@@ -163,7 +165,7 @@ public final class MixinUnits {
         return program.addVersion(unit);
     }
 
-    public void setType(int unit, int name, int type) {
+    public void setType(int unit, int name, int type) throws IndexOutOfBoundsException, IllegalArgumentException {
         needUnit(unit);
         if (type != HOLE_TYPE && type != NO_TYPE) {
             needType(type);
@@ -173,7 +175,8 @@ public final class MixinUnits {
         program.edits++;
     }
 
-    public void setValue(int unit, int name, int type, int expression, int flags) {
+    public void setValue(int unit, int name, int type, int expression, int flags)
+        throws IndexOutOfBoundsException, IllegalArgumentException {
         needUnit(unit);
         needType(type);
         if (expression != HOLE_EXPRESSION) {
@@ -191,7 +194,7 @@ public final class MixinUnits {
         program.edits++;
     }
 
-    public boolean remove(int unit, int name) {
+    public boolean remove(int unit, int name) throws IndexOutOfBoundsException, IllegalArgumentException {
         needUnit(unit);
         needValueName(name);
         Version latest = program.latestOf(unit);
@@ -203,7 +206,7 @@ public final class MixinUnits {
 
     // ---- nodes
 
-    public int unitNode(int unit, int version) {
+    public int unitNode(int unit, int version) throws IndexOutOfBoundsException, IllegalStateException {
         needUnit(unit);
         if (version < -1 || version >= program.versionCounts[unit]) {
             throw new IndexOutOfBoundsException("there is no such version");
@@ -212,7 +215,8 @@ public final class MixinUnits {
         return program.addNode(UNIT, new Node[0], unit, version, false);
     }
 
-    public int node(int kind, int first, int second, boolean isGenerative) {
+    public int node(int kind, int first, int second, boolean isGenerative)
+        throws IllegalArgumentException, IndexOutOfBoundsException, IllegalStateException {
         if (kind < LINK || kind > APPLY) {
             throw new IllegalArgumentException("there is no such kind of nodes");
         }
@@ -221,13 +225,14 @@ public final class MixinUnits {
         return program.addNode(kind, parts, 0, 0, kind != LINK && isGenerative);
     }
 
-    public int choose(int first, int second, int third) {
+    public int choose(int first, int second, int third) throws IndexOutOfBoundsException, IllegalStateException {
         Node[] parts = {neededNode(first), neededNode(second), neededNode(third)};
         needRoomForNode(1 + parts[0].weight + parts[1].weight + parts[2].weight);
         return program.addNode(CHOOSE, parts, 0, 0, false);
     }
 
-    public int rename(int node, int name, int to) {
+    public int rename(int node, int name, int to)
+        throws IndexOutOfBoundsException, IllegalArgumentException, IllegalStateException {
         Node[] parts = {neededNode(node)};
         needValueName(name);
         if (to < -1 || to >= VALUE_NAMES || to == name) {
@@ -239,11 +244,12 @@ public final class MixinUnits {
 
     // ---- faces
 
-    public int error(int node) {
+    public int error(int node) throws IndexOutOfBoundsException {
         return finder.faceOf(neededNode(node)).mistake;
     }
 
-    public int typeOf(int node, int name) {
+    public int typeOf(int node, int name)
+        throws IndexOutOfBoundsException, IllegalArgumentException, IllegalStateException {
         Node asked = neededNode(node);
         needTypeName(name);
         Face face = finder.faceOf(asked);
@@ -251,7 +257,8 @@ public final class MixinUnits {
         return face.isStamp(name) ? DEFINED_AS_STAMP : face.types[name];
     }
 
-    public boolean isSameType(int node, int name, int other, int otherName) {
+    public boolean isSameType(int node, int name, int other, int otherName)
+        throws IndexOutOfBoundsException, IllegalArgumentException, IllegalStateException {
         Node asked = neededNode(node);
         Node compared = neededNode(other);
         needTypeName(name);
@@ -264,7 +271,8 @@ public final class MixinUnits {
             && isSameRow(face.rows[name], face.sizes[name], otherFace.rows[otherName], otherFace.sizes[otherName]);
     }
 
-    public int valueOf(int node, int name) {
+    public int valueOf(int node, int name)
+        throws IndexOutOfBoundsException, IllegalArgumentException, IllegalStateException {
         Node asked = neededNode(node);
         needValueName(name);
         Face face = finder.faceOf(asked);
@@ -272,7 +280,8 @@ public final class MixinUnits {
         return face.values[name];
     }
 
-    public int size(int node, int name) {
+    public int size(int node, int name)
+        throws IndexOutOfBoundsException, IllegalArgumentException, IllegalStateException {
         Node asked = neededNode(node);
         needValueName(name);
         Face face = finder.faceOf(asked);
@@ -282,7 +291,7 @@ public final class MixinUnits {
 
     // ---- running
 
-    public int run(int node) {
+    public int run(int node) throws IndexOutOfBoundsException {
         Node started = neededNode(node);
         if (finder.faceOf(started).mistake != 0) {
             return RUN_WRONG;
@@ -298,7 +307,8 @@ public final class MixinUnits {
         return outcome;
     }
 
-    public int result(int name, int place) {
+    public int result(int name, int place)
+        throws IllegalArgumentException, IllegalStateException, IndexOutOfBoundsException {
         needValueName(name);
         if (!hasRun || kept.results[name] < 0) {
             throw new IllegalStateException("there is no such value");
@@ -314,7 +324,7 @@ public final class MixinUnits {
         return hasRun ? kept.entryCount : 0;
     }
 
-    public int log(int place) {
+    public int log(int place) throws IndexOutOfBoundsException {
         if (place < 0 || !hasRun || place >= kept.entryCount) {
             throw new IndexOutOfBoundsException("there is no such entry");
         }
@@ -331,7 +341,7 @@ public final class MixinUnits {
 
     // ---- compiling
 
-    public int build(int node) {
+    public int build(int node) throws IndexOutOfBoundsException {
         Node built = neededNode(node);
         finder.faceOf(built);
         int count = 0;
@@ -344,11 +354,11 @@ public final class MixinUnits {
         return count;
     }
 
-    public int compiled(int node) {
+    public int compiled(int node) throws IndexOutOfBoundsException {
         return neededNode(node).timesCompiled;
     }
 
-    public boolean isFresh(int node) {
+    public boolean isFresh(int node) throws IndexOutOfBoundsException {
         Node asked = neededNode(node);
         if (asked.timesCompiled == 0) {
             return true;

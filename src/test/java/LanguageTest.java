@@ -74,7 +74,8 @@ public final class LanguageTest {
     }
 
     private static void methods(String text) {
-        Matcher head = Pattern.compile("\n( +)(?:private |public |static |final )*(?:[\\w\\[\\]]+ )?(\\w+)\\(([^;{]*)\\) \\{\n")
+        Matcher head = Pattern.compile("\n( +)(?:private |public |static |final )*(?:[\\w\\[\\]]+ )?(\\w+)\\("
+            + "([^;{)]*)\\)(?:\\s+throws [\\w, ]+)? \\{\n")
             .matcher(text);
         while (head.find()) {
             if (!List.of("if", "for", "while", "switch").contains(head.group(2))) {
