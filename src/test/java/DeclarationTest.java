@@ -13,15 +13,62 @@ import java.util.List;
 /**
  * Holds the declarations of the class against "The public face" of the document, no more and no fewer:
  * those that were compiled (with -parameters, for the names), and those that the source's text shows.
+ * The face is written out here, so that the test does not rest on the document's form alone.
  */
 public final class DeclarationTest {
     private static final Due DUE = new Due("DeclarationTest");
     private static final String HEAD = "public final class MixinUnits {";
-    private static final int MEMBERS = 27;
+    private static final String[] FACE = {
+        "public MixinUnits()",
+        "public int type(int kind, int first, int second)"
+            + " throws IllegalArgumentException, IndexOutOfBoundsException, IllegalStateException",
+        "public int leaf(boolean isRef, int number)"
+            + " throws IllegalArgumentException, IllegalStateException",
+        "public int expression(int kind, int first, int second, int third)"
+            + " throws IllegalArgumentException, IndexOutOfBoundsException, IllegalStateException",
+        "public int unit() throws IllegalStateException",
+        "public int version(int unit) throws IndexOutOfBoundsException, IllegalStateException",
+        "public void setType(int unit, int name, int type)"
+            + " throws IndexOutOfBoundsException, IllegalArgumentException",
+        "public void setValue(int unit, int name, int type, int expression, int flags)"
+            + " throws IndexOutOfBoundsException, IllegalArgumentException",
+        "public boolean remove(int unit, int name)"
+            + " throws IndexOutOfBoundsException, IllegalArgumentException",
+        "public int unitNode(int unit, int version)"
+            + " throws IndexOutOfBoundsException, IllegalStateException",
+        "public int node(int kind, int first, int second, boolean isGenerative)"
+            + " throws IllegalArgumentException, IndexOutOfBoundsException, IllegalStateException",
+        "public int choose(int first, int second, int third)"
+            + " throws IndexOutOfBoundsException, IllegalStateException",
+        "public int rename(int node, int name, int to)"
+            + " throws IndexOutOfBoundsException, IllegalArgumentException, IllegalStateException",
+        "public int error(int node) throws IndexOutOfBoundsException",
+        "public int typeOf(int node, int name)"
+            + " throws IndexOutOfBoundsException, IllegalArgumentException, IllegalStateException",
+        "public boolean isSameType(int node, int name, int other, int otherName)"
+            + " throws IndexOutOfBoundsException, IllegalArgumentException, IllegalStateException",
+        "public int valueOf(int node, int name)"
+            + " throws IndexOutOfBoundsException, IllegalArgumentException, IllegalStateException",
+        "public int size(int node, int name)"
+            + " throws IndexOutOfBoundsException, IllegalArgumentException, IllegalStateException",
+        "public int run(int node) throws IndexOutOfBoundsException",
+        "public int result(int name, int place)"
+            + " throws IllegalArgumentException, IllegalStateException, IndexOutOfBoundsException",
+        "public int logged()",
+        "public int log(int place) throws IndexOutOfBoundsException",
+        "public int total()",
+        "public int dropped()",
+        "public int build(int node) throws IndexOutOfBoundsException",
+        "public int compiled(int node) throws IndexOutOfBoundsException",
+        "public boolean isFresh(int node) throws IndexOutOfBoundsException"
+    };
 
     public static void main(String[] args) throws IOException {
-        List<String> due = documentFace(Files.readString(Path.of("../shared/DOC.md")));
-        DUE.is("members that the document has", due.size(), MEMBERS);
+        List<String> due = List.of(FACE);
+        Path document = Path.of("../shared/DOC.md");
+        if (Files.exists(document)) {
+            same("in the document", documentFace(Files.readString(document)), due);
+        }
         heads();
         same("compiled", compiledFace(), due);
         same("in the source", sourceFace(Files.readString(Path.of("src/main/java/MixinUnits.java"))), due);
@@ -34,7 +81,7 @@ public final class DeclarationTest {
             DUE.is("declared " + where + ": " + member, count(got, member), 1);
         }
         for (String member : got) {
-            DUE.is("in the document, as it is " + where + ": " + member, count(due, member), 1);
+            DUE.is("due, as it is declared " + where + ": " + member, count(due, member), 1);
         }
     }
 
@@ -91,7 +138,8 @@ public final class DeclarationTest {
         }
         List<String> thrown = new ArrayList<>();
         for (Class<?> exception : member.getExceptionTypes()) {
-            thrown.add(exception.getPackageName().equals("java.lang") ? exception.getSimpleName() : exception.getName());
+            boolean isPlain = exception.getPackageName().equals("java.lang");
+            thrown.add(isPlain ? exception.getSimpleName() : exception.getName());
         }
         String modifiers = Modifier.toString(member.getModifiers());
         return modifiers + (modifiers.isEmpty() ? "" : " ") + result + name + "(" + String.join(", ", parameters) + ")"
@@ -132,7 +180,8 @@ public final class DeclarationTest {
         for (Class<?> inside : MixinUnits.class.getDeclaredClasses()) {
             int modifiers = inside.getModifiers();
             DUE.is("static: " + inside.getName(), Modifier.isStatic(modifiers), true);
-            DUE.is("not shown: " + inside.getName(), Modifier.isPublic(modifiers) || Modifier.isProtected(modifiers), false);
+            boolean isShown = Modifier.isPublic(modifiers) || Modifier.isProtected(modifiers);
+            DUE.is("not shown: " + inside.getName(), isShown, false);
         }
     }
 }
