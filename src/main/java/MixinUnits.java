@@ -1687,28 +1687,34 @@ public final class MixinUnits {
         private int[] firsts = new int[32];
         /** The second one of a pair; -1 for a number. */
         private int[] seconds = new int[32];
+        /** How many numbers there are, or FAR. */
         private long[] counts = new long[32];
+        /** How many numbers there are, gone round to an int. */
+        private int[] rounds = new int[32];
         int count;
 
-        private int add(int first, int second, long numbers) {
+        private int add(int first, int second, long numbers, int round) {
             if (count >= firsts.length) {
                 firsts = Arrays.copyOf(firsts, 2 * firsts.length);
                 seconds = Arrays.copyOf(seconds, 2 * seconds.length);
                 counts = Arrays.copyOf(counts, 2 * counts.length);
+                rounds = Arrays.copyOf(rounds, 2 * rounds.length);
             }
             firsts[count] = first;
             seconds[count] = second;
             counts[count] = numbers;
+            rounds[count] = round;
             count++;
             return count - 1;
         }
 
         int addNumber(int number) {
-            return add(number, -1, 1);
+            return add(number, -1, 1, 1);
         }
 
         int addPair(int first, int second) {
-            return add(first, second, Math.min(FAR, counts[first] + counts[second]));
+            long numbers = Math.min(FAR, counts[first] + counts[second]);
+            return add(first, second, numbers, rounds[first] + rounds[second]);
         }
 
         boolean isPair(int value) {
@@ -1723,9 +1729,14 @@ public final class MixinUnits {
             return seconds[value];
         }
 
-        /** How many numbers a value has. */
+        /** How many numbers a value has, so far as a place can tell. */
         long countOf(int value) {
             return counts[value];
+        }
+
+        /** What the log notes of a value: the number itself, or of a pair how many numbers it has. */
+        int entryOf(int value) {
+            return isPair(value) ? rounds[value] : firsts[value];
         }
 
         /** The number at a place of a value that has so many, from left to right. */
@@ -1791,8 +1802,8 @@ public final class MixinUnits {
                 return failure;
             }
             for (int name = 0; name < VALUE_NAMES; name++) {
-                int cell = shownCell(row, name);
-                results[name] = node.face.values[name] == DEFINED && cell >= 0 ? states[cell] : WITHOUT;
+                int cell = faceCell(node, row, name);
+                results[name] = cell < 0 ? WITHOUT : states[cell];
             }
             return 0;
         }
@@ -1816,8 +1827,8 @@ public final class MixinUnits {
             if (hasRing(from)) {
                 return fail(RUN_RING);
             }
-            reach(from, row);
-            giveValues(from, row);
+            reach(node, from, row);
+            giveValues(node, from, row);
             return row;
         }
 
@@ -1861,7 +1872,7 @@ public final class MixinUnits {
             if (row < 0) {
                 return -1;
             }
-            int cell = shownCell(row, 0);
+            int cell = faceCell(node.parts[2], row, 0);
             int value = cell < 0 ? WITHOUT : states[cell];
             if (value < 0 || values.isPair(value)) {
                 return fail(RUN_UNDECIDED);
@@ -1930,9 +1941,11 @@ public final class MixinUnits {
             return row;
         }
 
-        private int shownCell(int row, int name) {
+        /** The cell that the face of a node that has been run shows by a name; -1 for none. */
+        private int faceCell(Node node, int row, int name) {
             int slot = shown[row * VALUE_NAMES + name];
-            return slot < 0 ? -1 : cells[slot];
+            // What a signature made a ghost is a cell still, but none that the face shows.
+            return slot < 0 || node.face.values[name] != DEFINED ? -1 : cells[slot];
         }
 
         private boolean isCell(int slot) {
@@ -2001,7 +2014,7 @@ public final class MixinUnits {
         }
 
         /** Marks what is reached, and counts it. */
-        private void reach(int from, int row) {
+        private void reach(Node node, int from, int row) {
             cellCount = 0;
             reachedCount = 0;
             for (int slot = from * VALUE_NAMES; slot < slotCount(); slot++) {
@@ -2009,7 +2022,7 @@ public final class MixinUnits {
                 cellCount += isCell(slot) ? 1 : 0;
             }
             for (int name = 0; name < VALUE_NAMES; name++) {
-                reachCell(shownCell(row, name));
+                reachCell(faceCell(node, row, name));
             }
             for (int slot = from * VALUE_NAMES; slot < slotCount(); slot++) {
                 if (isCell(slot) && (flags[slot] & EFFECT) != 0) {
@@ -2034,7 +2047,7 @@ public final class MixinUnits {
             }
         }
 
-        private void giveValues(int from, int row) {
+        private void giveValues(Node node, int from, int row) {
             values.count = 0;
             entryCount = 0;
             for (int slot = from * VALUE_NAMES; slot < slotCount(); slot++) {
@@ -2043,7 +2056,7 @@ public final class MixinUnits {
                 }
             }
             for (int name = 0; name < VALUE_NAMES; name++) {
-                giveValue(shownCell(row, name));
+                giveValue(faceCell(node, row, name));
             }
         }
 
@@ -2079,7 +2092,7 @@ public final class MixinUnits {
         private void close(int cell, int value) {
             states[cell] = value;
             if (value >= 0 && (flags[cell] & EFFECT) != 0 && entryCount < SLOTS) {
-                entries[entryCount] = values.isPair(value) ? (int) values.countOf(value) : values.firstOf(value);
+                entries[entryCount] = values.entryOf(value);
                 entryCount++;
             }
         }

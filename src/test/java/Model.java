@@ -1,6 +1,7 @@
 import java.util.ArrayList;
 import java.util.Arrays;
 import java.util.HashMap;
+import java.util.IdentityHashMap;
 import java.util.LinkedHashMap;
 import java.util.List;
 import java.util.Map;
@@ -74,6 +75,11 @@ final class Model {
 
         boolean typeDefined(int n) {
             return types.get(n) != null;
+        }
+
+        /** Whether there is a cell to be shown: a definition that is no ghost. */
+        boolean shows(int n) {
+            return values.containsKey(n) && !values.get(n).hole && !values.get(n).ghost;
         }
 
         Full typeOrOpen(int n) {
@@ -898,7 +904,11 @@ final class Model {
                 throw new Wrong(9);
             }
         }
-        run.shown.values().forEach(s -> reach(s.end()));
+        run.shown.forEach((name, s) -> {
+            if (run.shape.shows(name)) {
+                reach(s.end());
+            }
+        });
         run.cells.forEach(c -> {
             if (c.effect()) {
                 reach(c);
@@ -910,9 +920,8 @@ final class Model {
             }
         }
         for (int name : new TreeMap<>(run.shown).keySet()) {
-            Slot c = run.shown.get(name).end();
-            if (c.cell()) {
-                ask(c, run);
+            if (run.shape.shows(name)) {
+                ask(run.shown.get(name).end(), run);
             }
         }
     }
@@ -960,7 +969,7 @@ final class Model {
         }
         c.on = false;
         if (c.has && c.effect()) {
-            run.log.add(c.value instanceof Integer i ? i : numbers(c.value).size());
+            run.log.add(c.value instanceof Integer i ? i : count(c.value, new IdentityHashMap<>()));
         }
     }
 
@@ -997,6 +1006,19 @@ final class Model {
                 }
                 throw new None();
         }
+    }
+
+    /** How many numbers, gone round to an int; a pair that stands in many places is counted once and added often. */
+    static int count(Object value, Map<Object, Integer> known) {
+        if (!(value instanceof Object[] pair)) {
+            return 1;
+        }
+        Integer count = known.get(value);
+        if (count == null) {
+            count = count(pair[0], known) + count(pair[1], known);
+            known.put(value, count);
+        }
+        return count;
     }
 
     static List<Integer> numbers(Object value) {
@@ -1077,8 +1099,7 @@ final class Model {
         if (kept == null) {
             throw ise();
         }
-        Value v = kept.shape.values.get(name);
-        if (v == null || v.hole || v.ghost || !kept.shown.get(name).end().has) {
+        if (!kept.shape.shows(name) || !kept.shown.get(name).end().has) {
             throw ise();
         }
         List<Integer> all = numbers(kept.shown.get(name).end().value);

@@ -103,6 +103,8 @@ public final class RunTest {
         new RunTest().applied();
         new RunTest().reached();
         new RunTest().ghosts();
+        new RunTest().ghostsOfSeals();
+        new RunTest().ghostsOfChoices();
         new RunTest().choices();
         new RunTest().choicesThatFail();
         new RunTest().instances();
@@ -110,6 +112,7 @@ public final class RunTest {
         new RunTest().unlikeHalves();
         new RunTest().unlikeChoice();
         new RunTest().manyNumbers();
+        new RunTest().moreNumbersThanALong();
         new RunTest().manyValues();
         new RunTest().longChain();
         DUE.end();
@@ -473,8 +476,81 @@ public final class RunTest {
         results("but a REF has the cell", 1, 5);
         value(a, 1, number(6));
         runs("a cell made a ghost", made, 0);
-        cells("it is shown, as a ghost", 2, 0);
+        cells("it is not shown, as a ghost", 2, 1);
         runs("a cell made a ghost fills a hole", x.node(0, made, ghostHole(), false), 0);
+        cells("that nobody shows either", 2, 1);
+    }
+
+    /** The face of a SEAL shows no cell by the name of a ghost, be there one behind it or not. */
+    private void ghostsOfSeals() {
+        int a = unit();
+        int s = unit();
+        value(a, 0, number(1));
+        value(a, 1, number(2), EFFECT);
+        value(a, 2, number(3), LAZY + EFFECT);
+        value(a, 3, number(4), LAZY);
+        value(a, 4, number(5));
+        for (int name = 0; name < 4; name++) {
+            x.setValue(s, name, INT, -1, GHOST);
+        }
+        hole(s, 4, INT);
+        int sealed = x.node(1, a, s, false);
+        runs("ghosts of a SEAL", sealed, 0);
+        cells("effects and what is shown are reached", 5, 2);
+        logs("a lazy effect is not asked for", 2);
+        results("the one that is shown", 4, 5);
+        without("a ghost", 0);
+        without("an effect, a ghost", 1);
+        runs("renamed", x.rename(x.rename(sealed, 0, 7), 2, 0), 0);
+        cells("effects and what is shown are reached", 5, 2);
+        logs("a lazy effect is not asked for", 2);
+        runs("linked", x.node(0, x.rename(unit2(4, 1), 4, 6), sealed, false), 0);
+        cells("effects and what is shown are reached", 6, 2);
+        logs("a lazy effect is not asked for", 2);
+        value(a, 4, add(ref(2), ref(3)));
+        runs("asked for by a REF", sealed, 0);
+        cells("reached by a REF", 5, 1);
+        logs("the lazy one, for a REF", 2, 3);
+        results("of lazy ones", 4, 7);
+        value(a, 4, ref(0), LAZY);
+        runs("in a third part", x.choose(a, a, x.rename(sealed, 4, 9)), 10);
+        runs("asked for at the end", sealed, 0);
+        cells("reached by a lazy one", 5, 1);
+        results("of one that is not lazy", 4, 1);
+        int effects = x.node(1, x.rename(sealed, 0, 8), unit2(4, 0), false);
+        runs("sealed twice", effects, 0);
+        logs("the effect", 2);
+    }
+
+    /** A CHOOSE has a ghost, where one of both has: the other one's cell is not shown then. */
+    private void ghostsOfChoices() {
+        int a = unit();
+        int b = unit();
+        int t = unit();
+        int s = unit();
+        value(a, 1, number(1), LAZY + EFFECT);
+        value(a, 2, number(2));
+        value(b, 1, number(3), GHOST);
+        value(b, 2, number(4));
+        value(t, 0, number(1));
+        value(t, 1, number(1), GHOST);
+        int n = x.choose(a, b, t);
+        DUE.is("a ghost, if one is", x.valueOf(n, 1), 6);
+        runs("the one that is no ghost there", n, 0);
+        logs("is not asked for");
+        without("nor shown", 1);
+        cells("but an effect", 2, 0);
+        value(a, 1, number(1));
+        runs("the one that is no ghost there", n, 0);
+        cells("is dropped", 2, 1);
+        value(t, 0, number(0));
+        runs("the one that is a ghost", n, 0);
+        results("of the second part", 2, 4);
+        cells("is no cell", 1, 0);
+        value(a, 0, number(7), EFFECT);
+        x.setValue(s, 0, INT, -1, GHOST);
+        hole(s, 1, INT);
+        DUE.is("a ghost by a SEAL as third", x.error(x.choose(a, b, x.node(1, a, s, false))), 500);
     }
 
     private int ghostHole() {
@@ -716,6 +792,89 @@ public final class RunTest {
         runs("ten numbers", a, 0);
         results("ten numbers", 1, 1, 2, 3, 4, 5, 1, 2, 3, 4, 5);
         logs("ten numbers", 10);
+    }
+
+    /**
+     * Two times three makers in a row, each behind a stamp, so that no type is too large: a maker, and what is
+     * between two of them, has 36 times the numbers of what is ahead of it.
+     */
+    private void moreNumbersThanALong() {
+        int maker = x.unit();
+        int signature = x.unit();
+        int between = x.unit();
+        int start = x.unit();
+        types(maker, 1, 2, 0);
+        types(between, 0, 3, 1);
+        x.setType(signature, 0, -1);
+        x.setType(signature, 1, -1);
+        x.setType(start, 1, six(INT));
+        for (int name = 0; name < 9; name += 3) {
+            makes(maker, name, named(1), name + 1, named(2), name + 2, named(0));
+            hole(signature, name, named(1));
+            hole(signature, name + 2, named(0));
+            int before = name == 6 ? 9 : name + 5;
+            makes(between, before, named(0), name + 1, named(3), name, named(1));
+            int three = pair(pair(number(1), number(2)), number(3));
+            x.setValue(start, name, named(1), pair(three, three), 0);
+        }
+        x.setValue(maker, 2, named(0), sixOf(ref(1)), EFFECT);
+        int sealed = x.node(1, x.unitNode(maker, 0), x.unitNode(signature, 0), false);
+        int makers = x.node(0, sealed, x.unitNode(between, 0), false);
+        int show = shower();
+        int first = x.node(2, show, x.node(0, sealed, x.unitNode(start, 0), false), false);
+        int second = x.node(2, show, x.node(0, makers, x.rename(first, 2, 9), false), false);
+        runs("three makers", second, 0);
+        logs("two entries, gone round", 216, (int) power(6, 15));
+        int third = x.node(0, makers, x.rename(second, 2, 9), false);
+        DUE.is("all makers", x.error(third), 0);
+        runs("all makers", third, 0);
+        logs("three entries, gone round", 216, (int) power(6, 15), (int) power(6, 27));
+        for (int name = 0; name < 9; name++) {
+            for (int place : new int[] {0, 1, 2, 6 * 6 * 6 - 1, 1 << 30, Integer.MAX_VALUE}) {
+                if (name % 3 != 1) {
+                    DUE.is("very many numbers, " + name + " at " + place, x.result(name, place), place % 3 + 1);
+                }
+            }
+        }
+        DUE.index("no place -1", () -> x.result(2, -1));
+    }
+
+    private static long power(long base, int times) {
+        long power = 1;
+        for (int i = 0; i < times; i++) {
+            power *= base;
+        }
+        return power;
+    }
+
+    private int six(int type) {
+        int three = x.type(1, x.type(1, type, type), type);
+        return x.type(1, three, three);
+    }
+
+    private int sixOf(int value) {
+        int three = pair(pair(value, value), value);
+        return pair(three, three);
+    }
+
+    /** A hole, a type of six of it, and one of six of that. */
+    private void types(int u, int one, int six, int all) {
+        x.setType(u, one, -1);
+        x.setType(u, six, six(named(one)));
+        x.setType(u, all, six(named(six)));
+    }
+
+    private void makes(int u, int one, int oneType, int six, int sixType, int all, int allType) {
+        hole(u, one, oneType);
+        x.setValue(u, six, sixType, sixOf(ref(one)), 0);
+        x.setValue(u, all, allType, sixOf(ref(six)), 0);
+    }
+
+    private int shower() {
+        int u = x.unit();
+        x.setType(u, 0, -1);
+        hole(u, 2, named(0));
+        return x.unitNode(u, 0);
     }
 
     private void manyValues() {
