@@ -479,6 +479,18 @@ public final class RunTest {
         cells("it is not shown, as a ghost", 2, 1);
         runs("a cell made a ghost fills a hole", x.node(0, made, ghostHole(), false), 0);
         cells("that nobody shows either", 2, 1);
+        hole(b, 0, INT);
+        value(b, 3, add(ref(0), number(2)));
+        int keeper = x.unit();
+        x.setValue(keeper, 0, INT, -1, GHOST);
+        hole(keeper, 3, INT);
+        int asking = x.node(1, b, x.unitNode(keeper, 0), false);
+        DUE.is("a hole made a ghost", x.valueOf(asking, 0), 5);
+        runs("it is filled by nothing", asking, 8);
+        runs("a cell made a ghost fills a hole made a ghost", x.node(0, asking, made, false), 0);
+        results("a REF has the cell", 3, 7);
+        without("the face has a ghost", 0);
+        cells("reached by the REF", 3, 0);
     }
 
     /** The face of a SEAL shows no cell by the name of a ghost, be there one behind it or not. */
