@@ -318,11 +318,11 @@ public final class RefusedTest {
             add("setType by " + name + " to none", ARGUMENT, x -> x.setType(0, name, -2));
         }
         for (int type : new int[] {-2, -1, types, MIN, MAX}) {
-            add("setValue to type " + type, INDEX, x -> x.setValue(0, 0, type, 0, 0));
+            add("setValue to type " + type, INDEX, x -> x.setValue(0, 0, type, 1, 1));
             add("setValue to type " + type + ", no name, no flags", INDEX, x -> x.setValue(0, 10, type, 0, 8));
         }
         for (int expression : new int[] {-2, expressions, MIN, MAX}) {
-            add("setValue to " + expression, INDEX, x -> x.setValue(0, 0, 0, expression, 0));
+            add("setValue to " + expression, INDEX, x -> x.setValue(0, 0, 3, expression, 1));
             add("setValue to " + expression + ", no name, no flags", INDEX, x -> x.setValue(0, -1, 0, expression, -1));
         }
         for (int name : outside(10)) {
@@ -331,9 +331,10 @@ public final class RefusedTest {
         }
         for (int flags : outside(8)) {
             add("setValue with flags " + flags, ARGUMENT, x -> x.setValue(0, 0, 0, 1, flags));
+            add("setValue to a pair with flags " + flags, ARGUMENT, x -> x.setValue(0, 0, 3, 5, flags));
         }
         for (int flags : new int[] {-1, 1, 2, 3, 5, 6, 7, 8, MIN, MAX}) {
-            add("setValue with flags " + flags + " for a hole", ARGUMENT, x -> x.setValue(0, 0, 0, -1, flags));
+            add("setValue with flags " + flags + " for a hole", ARGUMENT, x -> x.setValue(0, 0, 3, -1, flags));
         }
     }
 
