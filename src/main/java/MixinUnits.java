@@ -1683,9 +1683,11 @@ public final class MixinUnits {
     private static final class Values {
         /** Beyond any place that can be asked for, and far enough from the end of long to add two. */
         private static final long FAR = 1L << 61;
+        /** In place of the second one, for a number. */
+        static final int ALONE = -1;
         /** The number, or the first one of a pair. */
         private int[] firsts = new int[32];
-        /** The second one of a pair; -1 for a number. */
+        /** The second one of a pair, or ALONE. */
         private int[] seconds = new int[32];
         /** How many numbers there are, or FAR. */
         private long[] counts = new long[32];
@@ -1693,32 +1695,25 @@ public final class MixinUnits {
         private int[] rounds = new int[32];
         int count;
 
-        private int add(int first, int second, long numbers, int round) {
+        /** Adds a number, with ALONE, or a pair of two earlier values. */
+        int add(int first, int second) {
             if (count >= firsts.length) {
                 firsts = Arrays.copyOf(firsts, 2 * firsts.length);
                 seconds = Arrays.copyOf(seconds, 2 * seconds.length);
                 counts = Arrays.copyOf(counts, 2 * counts.length);
                 rounds = Arrays.copyOf(rounds, 2 * rounds.length);
             }
+            boolean isNumber = second == ALONE;
             firsts[count] = first;
             seconds[count] = second;
-            counts[count] = numbers;
-            rounds[count] = round;
+            counts[count] = isNumber ? 1 : Math.min(FAR, counts[first] + counts[second]);
+            rounds[count] = isNumber ? 1 : rounds[first] + rounds[second];
             count++;
             return count - 1;
         }
 
-        int addNumber(int number) {
-            return add(number, -1, 1, 1);
-        }
-
-        int addPair(int first, int second) {
-            long numbers = Math.min(FAR, counts[first] + counts[second]);
-            return add(first, second, numbers, rounds[first] + rounds[second]);
-        }
-
         boolean isPair(int value) {
-            return seconds[value] >= 0;
+            return seconds[value] != ALONE;
         }
 
         int firstOf(int value) {
@@ -2104,7 +2099,7 @@ public final class MixinUnits {
             }
             switch (program.kinds[expression]) {
                 case NUMBER:
-                    return values.addNumber(program.firsts[expression]);
+                    return values.add(program.firsts[expression], Values.ALONE);
                 case REF:
                     return evaluateRef(target(cell, program.firsts[expression]));
                 case ADD:
@@ -2134,10 +2129,10 @@ public final class MixinUnits {
                 return WITHOUT;
             }
             if (program.kinds[expression] == PAIR) {
-                return values.addPair(first, second);
+                return values.add(first, second);
             }
             return values.isPair(first) || values.isPair(second) ? WITHOUT
-                : values.addNumber(values.firstOf(first) + values.firstOf(second));
+                : values.add(values.firstOf(first) + values.firstOf(second), Values.ALONE);
         }
 
         private int evaluateWhen(int expression, int cell, int depth) {
